@@ -63,7 +63,7 @@ public final class DewLooms {
         for (int i = 0; i < FIRST_TEXT.length(); i++) {
             text.append(FIRST_TEXT.charAt(i));
         }
-        lay();
+        layText();
         text.clear();
     }
 
@@ -91,17 +91,7 @@ public final class DewLooms {
     }
 
     public int lay() {
-        if (reader.read(text, draft) != NONE || draft.start.many == 0) {
-            return NO;
-        }
-        Night laid = draft;
-        draft = night;
-        night = laid;
-        now.copy(night.start);
-        sights.clear();
-        acts.clear();
-        kept.clear();
-        return now.many;
+        return layText();
     }
 
     public int loom(int l, int what) {
@@ -214,7 +204,18 @@ public final class DewLooms {
         if (isOutside(k, -1, now.many - 1)) {
             return BAD;
         }
-        findBestWay();
+        int spoiledByNow = now.allSpoiled();
+        ways.begin(now);
+        boolean more = true;
+        for (int i = 0; more && i < MOST_WAYS; i++) {
+            trial.copy(now);
+            ways.applyTo(trial);
+            int yards = Integer.bitCount(yardsOfTrial());
+            if (trial.allSpoiled() == spoiledByNow) {
+                ways.weigh(yards);
+            }
+            more = ways.goOn();
+        }
         if (!ways.isFound()) {
             return NONE;
         }
@@ -227,12 +228,14 @@ public final class DewLooms {
         }
         int shaded = now.shades();
         int bestSet = 0;
-        int bestYards = yardsShaded(0);
+        shadeTrial(bestSet);
+        int bestYards = Integer.bitCount(yardsOfTrial());
         for (int set = 1; set < 1 << now.many; set++) {
             if ((set & shaded) != 0) {
                 continue;
             }
-            int yards = yardsShaded(set);
+            shadeTrial(set);
+            int yards = Integer.bitCount(yardsOfTrial());
             boolean fewer = Integer.bitCount(set) < Integer.bitCount(bestSet);
             if (yards > bestYards || yards == bestYards && fewer) {
                 bestYards = yards;
@@ -376,6 +379,20 @@ public final class DewLooms {
         }
     }
 
+    private int layText() {
+        if (reader.read(text, draft) != NONE || draft.start.many == 0) {
+            return NO;
+        }
+        Night laid = draft;
+        draft = night;
+        night = laid;
+        now.copy(night.start);
+        sights.clear();
+        acts.clear();
+        kept.clear();
+        return now.many;
+    }
+
     private boolean isNoLoom(int l) {
         return isOutside(l, 0, now.many - 1);
     }
@@ -392,37 +409,22 @@ public final class DewLooms {
         return (bits >> bit & 1) == 1;
     }
 
-    private int hoursTillMerchants() {
-        return Math.max(0, night.merchants - now.hour);
-    }
-
+    /** Of how the trial stands, which goes on till the merchants come. */
     private int yardsOfTrial() {
         night.goBy(trial, hoursTillMerchants());
         return trial.yardBits(night.yard);
     }
 
-    private int yardsShaded(int set) {
+    private int hoursTillMerchants() {
+        return Math.max(0, night.merchants - now.hour);
+    }
+
+    private void shadeTrial(int set) {
         trial.copy(now);
         for (int l = 0; l < now.many; l++) {
             if (hasBit(set, l)) {
                 trial.pick(l).shaded = true;
             }
-        }
-        return Integer.bitCount(yardsOfTrial());
-    }
-
-    private void findBestWay() {
-        int spoiledByNow = now.allSpoiled();
-        ways.begin(now);
-        boolean more = true;
-        for (int i = 0; more && i < MOST_WAYS; i++) {
-            trial.copy(now);
-            ways.applyTo(trial);
-            int yards = Integer.bitCount(yardsOfTrial());
-            if (trial.allSpoiled() == spoiledByNow) {
-                ways.weigh(yards);
-            }
-            more = ways.goOn();
         }
     }
 
@@ -535,17 +537,13 @@ public final class DewLooms {
             place = 0;
             for (int items = 0; items < MOST_LETTERS && place < text.many; items++) {
                 int first = place;
-                if (!readItem(text, night)) {
+                int letter = text.letterOn(first);
+                place++;
+                if (!readNumbers(text, numbersBehind(letter)) || !tellNight(night, letter)) {
                     return first;
                 }
             }
             return NONE;
-        }
-
-        private boolean readItem(Text text, Night night) {
-            int letter = text.letterOn(place);
-            place++;
-            return readNumbers(text, numbersBehind(letter)) && tellNight(night, letter);
         }
 
         private static int numbersBehind(int letter) {

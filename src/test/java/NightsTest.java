@@ -224,12 +224,10 @@ public final class NightsTest {
         due.is("sun with hour 6", untold.behind(7, 0, 0), 22);
         untold.pass(6);
         due.is("merchants with hour 9: 18 drops, a yard of 6", untold.yards(), 1);
+        due.is("6 drops are a yard", Due.laid("l0,0,9;h6,0;s1;m1;").yards(), 1);
+        due.is("5 drops are not", Due.laid("l0,0,9;h5,0;s1;m1;").yards(), 0);
         due.is("18 drops are a yard of 18", Due.laid("l0,0,9;y18;").yards(), 1);
         due.is("18 drops are no yard of 19", Due.laid("l0,0,9;y19;").yards(), 0);
-        DewLooms shaded = Due.laid("l0,0,2;");
-        shaded.shade(0);
-        due.is("6 drops are a yard", shaded.yards(), 1);
-        due.is("at hour 9 none is left without shade", Due.laid("l0,0,2;").yards(), 0);
         due.is("sun with hour 0", Due.laid("l0,0,9;s0;").behind(5, 0, 0), 0);
     }
 

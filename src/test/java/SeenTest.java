@@ -11,6 +11,7 @@ public final class SeenTest {
         promise23CowsFromNow();
         promise24Colds();
         promise24ColdsOfOneHourAlone();
+        promise24ColdsBehindTwelveHours();
         promise24ColdsInTheSun();
         due.end();
     }
@@ -66,7 +67,14 @@ public final class SeenTest {
         due.is("8 and 4 are 12, with a cow 10", x.cows(), 64 + 31 - 8);
         x.seen(0, 0, 12);
         due.is("all have dried behind 12 hours", x.cows(), 64 + 31 - 8);
+        x.forget();
+        x.seen(1, 1, 12);
+        due.is("1 drop behind 12 hours", x.cows(), 0);
         due.is("no cow has breathed", x.count(2), 18);
+        DewLooms long12 = Due.laid("l0,0,9;h0,0;s20;");
+        long12.tears(0);
+        long12.seen(0, 4, 12);
+        due.is("4 of 9 behind 12 hours", long12.cows(), 1);
     }
 
     private static void promise23CowsOnNone() {
@@ -136,6 +144,12 @@ public final class SeenTest {
         x.forget();
         x.seen(0, 7, 3);
         due.is("3, 2, 1 and 1", x.colds(), 1 << 2);
+    }
+
+    private static void promise24ColdsBehindTwelveHours() {
+        DewLooms x = Due.laid("l0,0,9;h1,0;s20;");
+        x.seen(0, 13, 12);
+        due.is("2 and 11", x.colds(), 1 << 2);
     }
 
     private static void promise24ColdsInTheSun() {
