@@ -46,7 +46,8 @@ final class Due {
         for (int what = 0; what <= 10; what++) {
             line.append(looms.count(what)).append(' ');
         }
-        for (int l = 0; l < looms.count(0); l++) {
+        int many = looms.count(0);
+        for (int l = 0; l < many; l++) {
             line.append('/');
             for (int what = 0; what <= 5; what++) {
                 line.append(looms.loom(l, what)).append(' ');

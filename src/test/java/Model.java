@@ -214,7 +214,7 @@ final class Model {
         return kind == 3 ? cold + 2 : kind == 1 ? half + half : half;
     }
 
-    /** An hour by which that weather is; of each loom what runs down goes into ran, if it is one. */
+    /** An hour of that weather; what runs down from each loom goes into ran, if it is a row. */
     private Stand next(Stand from, Weather weather, int[] ran) {
         List<Loom> looms = new ArrayList<>(from.looms());
         if (from.hour() >= told.sun) {

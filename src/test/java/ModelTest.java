@@ -55,8 +55,13 @@ public final class ModelTest {
         return others[below(others.length)];
     }
 
+    /** By the model: an object of the program has 512 calls, and these are none of them. */
+    private int told(String name, int a, int b, int c) {
+        return model.call(name, a, b, c, 0);
+    }
+
     private int someLoom() {
-        return number(0, looms.count(0) - 1);
+        return number(0, told("count", 0, 0, 0) - 1);
     }
 
     private void runAll() {
@@ -133,7 +138,9 @@ public final class ModelTest {
             case "pass": ask(name, number(1, below(5) == 0 ? 24 : 2), 0, 0, 0); break;
             case "set": ask(name, someLoom(), number(0, 9), 0, 0); break;
             case "behind": ask(name, number(0, 24), someLoom(), number(0, 1), 0); break;
-            case "setting": ask(name, number(-1, looms.count(0) - 1), 0, 0, 0); break;
+            case "setting":
+                ask(name, number(-1, told("count", 0, 0, 0) - 1), 0, 0, 0);
+                break;
             case "shading": ask(name, number(0, 1), 0, 0, 0); break;
             case "seen": drawSeen(); break;
             case "likely":
@@ -149,9 +156,9 @@ public final class ModelTest {
     private void drawSeen() {
         int l = someLoom();
         int t = number(0, 12);
-        int will = looms.behind(t, l, 0);
+        int will = told("behind", t, l, 0);
         int n = below(4) == 0 || will < 0 ? number(0, 27) : will / (1 + below(3) / 2);
-        if (looms.count(7) > below(6)) {
+        if (told("count", 7, 0, 0) > below(6)) {
             ask("forget", 0, 0, 0, 0);
         }
         ask("seen", l, n, t, 0);
