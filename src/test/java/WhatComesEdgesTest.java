@@ -251,6 +251,97 @@ public final class WhatComesEdgesTest {
         setting("the last of 2", Due.laid("l0,0,3;l0,9,1;h4,0;m1;y5;"), 1, 9, 0);
     }
 
+    @Says(promise = 17, words = "that by which most have a YARD then, of several the first (by the"
+        + " PLACE of LOOM 0, then 1, ..)")
+    static void settingIsTheFirstOfAllWaysInThisOrder() {
+        Way[] ways = {
+            new Way("h8,0;s9;m1;y27;", "l1,9,3", "l3,8,0", "l2,2,0", "l3,9,1"),
+            new Way("h4,0;s1;m2;y7;", "l0,3,3s", "l1,1,2", "l2,2,1", "l0,4,0s", "l3,5,0"),
+            new Way("h9,0;m1;y24;", "l1,6,2", "l2,3,1", "l0,8,1", "l0,9,0", "l0,5,1", "l2,5,2"),
+            new Way("h3,0;h1,1;m3;y9;", "l0,1,0", "l0,2,2", "l0,3,1", "l0,4,0", "l0,5,2", "l1,1,3"),
+            new Way("h7,0;s1;m3;y5;", "l3,2,1", "l3,2,0s", "l0,2,2", "l0,3,1", "l2,1,2", "l1,4,0"),
+            new Way("h2,0;m2;y4;", "l2,1,3", "l2,1,3", "l0,9,0", "l1,1,3", "l0,1,3", "l3,2,1"),
+            new Way("h9,0;m1;y20;", "l0,1,0", "l0,9,0", "l0,2,0", "l0,8,1", "l0,1,0", "l1,9,0")};
+        for (Way way : ways) {
+            way.seekFrom(0);
+            DewLooms x = way.asAtFirst();
+            setting(way.night, x, way.bestYards, way.best);
+        }
+    }
+
+    /** All ways to set some looms, each made anew and looked at. */
+    private static final class Way {
+        private static final int[] PLACES = {0, 2, 3, 5, 8, 9};
+        private final String night;
+        private final String[] looms;
+        private final int[] places;
+        private final int[] best;
+        private int bestYards = NONE;
+
+        /** Of looms by kind, threads, how many tears, and s with shade. */
+        Way(String night, String... looms) {
+            this.night = night;
+            this.looms = looms;
+            places = new int[looms.length];
+            best = new int[looms.length];
+            java.util.Arrays.fill(best, NONE);
+        }
+
+        DewLooms asAtFirst() {
+            // From below: the way in which they stand is not the first one.
+            for (int l = 0; l < looms.length; l++) {
+                places[l] = PLACES[looms.length - 1 - l];
+            }
+            return made();
+        }
+
+        private DewLooms made() {
+            StringBuilder text = new StringBuilder();
+            for (int l = 0; l < looms.length; l++) {
+                text.append(looms[l], 0, 3).append(places[l]).append(',').append(looms[l].charAt(3))
+                    .append(';');
+            }
+            DewLooms x = Due.laid(text + night);
+            for (int l = 0; l < looms.length; l++) {
+                for (int i = looms[l].charAt(5) - '0'; i > 0; i--) {
+                    x.tears(l);
+                }
+                if (looms[l].endsWith("s")) {
+                    x.shade(l);
+                }
+            }
+            return x;
+        }
+
+        /** Sets the looms from l on, each on any place that is left, the uppermost first. */
+        void seekFrom(int l) {
+            if (l == looms.length) {
+                look();
+                return;
+            }
+            for (int p = 0; p < looms.length; p++) {
+                boolean free = true;
+                for (int other = 0; other < l; other++) {
+                    free &= places[other] != PLACES[p];
+                }
+                if (free) {
+                    places[l] = PLACES[p];
+                    seekFrom(l + 1);
+                }
+            }
+        }
+
+        private void look() {
+            DewLooms x = made();
+            int yards = Integer.bitCount(x.yards());
+            x.pass(night.charAt(night.indexOf('m') + 1) - '0');
+            if (x.count(4) == 0 && yards > bestYards) {
+                bestYards = yards;
+                System.arraycopy(places, 0, best, 0, best.length);
+            }
+        }
+    }
+
     @Says(promise = 17, words = "on the PLACES on which any stand")
     static void onlyPlacesOnWhichAnyStandNow() {
         DewLooms x = Due.laid("l0,0,1;l0,9,1;h0,0;m1;y1;");
@@ -261,6 +352,24 @@ public final class WhatComesEdgesTest {
         x.undo();
         x.undo();
         setting("undone", x, 0, 0, 9);
+    }
+
+    @Says(promise = 17, words = "on the PLACES on which any stand")
+    static void noPlacesOfAnEarlierNight() {
+        DewLooms x = Edge.made(Loomed::six);
+        x.setting(-1);
+        x.wipe();
+        Due.write(x, "l0,5,3;l0,7,1;h4,0;m1;y5;");
+        x.lay();
+        setting("two behind six", x, 1, 7, 5);
+        x.wipe();
+        Due.write(x, "l0,5,1;l0,7,3;h4,0;m1;y5;");
+        x.lay();
+        setting("two behind two", x, 1, 5, 7);
+        x.wipe();
+        Due.write(x, "l0,6,3;");
+        x.lay();
+        setting("one behind two", x, 0, 6);
     }
 
     @Says(promise = 17, words = "each with its DROPS and SHADE")
