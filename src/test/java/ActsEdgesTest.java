@@ -226,6 +226,23 @@ public final class ActsEdgesTest {
         Edge.is("24 hours of sun", Due.laid("l0,0,9;h0,0;s0;").pass(24), 0);
     }
 
+    @Says(promise = 9, words = "by each such HOUR a LOOM that has no SHADE has 2 DROPS fewer (a"
+        + " SHEET 1)")
+    static void theSunComesOnceToEachOfOneToSix() {
+        StringBuilder night = new StringBuilder("h0,0;s0;");
+        for (int many = 1; many <= 6; many++) {
+            night.append(many % 2 == 0 ? "l3," : "l0,").append(9 - many).append(",9;");
+            DewLooms x = Due.laid(night.toString());
+            for (int l = 0; l < many; l++) {
+                x.tears(l);
+            }
+            x.pass(1);
+            for (int l = 0; l < many; l++) {
+                Edge.is("drops of " + l + " of " + many, x.loom(l, 3), l % 2 == 0 ? 7 : 8);
+            }
+        }
+    }
+
     @Says(promise = 9, words = "a LOOM that has no SHADE has 2 DROPS fewer")
     static void inShadeNothingIsFewer() {
         for (int kind = 0; kind <= 3; kind++) {

@@ -188,6 +188,26 @@ public final class KeptEdgesTest {
         }
     }
 
+    @Says(promise = 29, words = "2 DROPS of all, 3 RUN OFF, 4 SPOILED in all")
+    static void whatIsOfAllIsThatOfEachOnce() {
+        // From place 0 on 1, 1, 2, 3, 4 and 1 drops run, the first and the fifth to a bride's.
+        DewLooms x = Due.laid("l2,1,1;l0,0,1;l0,2,1;l0,3,1;l0,4,1;l2,5,1;h4,0;");
+        x.pass(1);
+        Edge.is("spoiled on the first", x.loom(0, 4), 1);
+        Edge.is("spoiled on the last", x.loom(5, 4), 4);
+        Edge.is("spoiled in all", x.count(4), 5);
+        Edge.is("drops of all", x.count(2), 18);
+        Edge.is("run off", x.count(3), 1);
+        for (int many = 5; many >= 1; many--) {
+            x.wipe();
+            Due.write(x, "l2,1,9;l2,0,9;l0,2,9;l0,3,9;l2,4,9;".substring(0, 7 * many));
+            x.lay();
+            x.tears(many - 1);
+            Edge.is("spoiled in all of " + many, x.count(4), 0);
+            Edge.is("drops of all of " + many, x.count(2), 9);
+        }
+    }
+
     @Says(promise = 29, words = "6 LOOMS that have a YARD now")
     static void aYardIsEnoughOneDropLessIsNot() {
         DewLooms x = Due.laid("l0,0,9;l0,1,9;h4,0;h1,0;h1,0;s20;y5;");

@@ -359,9 +359,9 @@ public final class WhatComesEdgesTest {
         DewLooms x = Edge.made(Loomed::six);
         x.setting(-1);
         x.wipe();
-        Due.write(x, "l0,5,3;l0,7,1;h4,0;m1;y5;");
+        Due.write(x, "l0,3,3;l0,5,1;h4,0;m1;y5;");
         x.lay();
-        setting("two behind six", x, 1, 7, 5);
+        setting("two behind six", x, 1, 5, 3);
         x.wipe();
         Due.write(x, "l0,5,1;l0,7,3;h4,0;m1;y5;");
         x.lay();
