@@ -356,20 +356,25 @@ public final class WhatComesEdgesTest {
 
     @Says(promise = 17, words = "on the PLACES on which any stand")
     static void noPlacesOfAnEarlierNight() {
-        DewLooms x = Edge.made(Loomed::six);
-        x.setting(-1);
+        // Each is the first to be asked behind the other night.
+        int[] lower = {1, 5, 3};
+        int[] upper = {1, 7, 9};
+        for (int k = -1; k < 2; k++) {
+            DewLooms x = Edge.made(Loomed::six);
+            x.setting(-1);
+            isLaid(x, "l0,3,3;l0,5,1;h4,0;m1;y5;");
+            Edge.is("setting(" + k + ") of two behind six", x.setting(k), lower[k + 1]);
+            isLaid(x, "l0,7,1;l0,9,3;h4,0;m1;y5;");
+            Edge.is("setting(" + k + ") of two behind two", x.setting(k), upper[k + 1]);
+            isLaid(x, "l0,6,3;");
+            setting("one behind two", x, 0, 6);
+        }
+    }
+
+    private static void isLaid(DewLooms x, String text) {
         x.wipe();
-        Due.write(x, "l0,3,3;l0,5,1;h4,0;m1;y5;");
-        x.lay();
-        setting("two behind six", x, 1, 5, 3);
-        x.wipe();
-        Due.write(x, "l0,5,1;l0,7,3;h4,0;m1;y5;");
-        x.lay();
-        setting("two behind two", x, 1, 5, 7);
-        x.wipe();
-        Due.write(x, "l0,6,3;");
-        x.lay();
-        setting("one behind two", x, 0, 6);
+        Due.write(x, text);
+        Edge.isTrue("lay of " + text, x.lay() > 0);
     }
 
     @Says(promise = 17, words = "each with its DROPS and SHADE")
