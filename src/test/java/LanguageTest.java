@@ -1,10 +1,16 @@
 import com.sun.source.tree.AssertTree;
+import com.sun.source.tree.BinaryTree;
 import com.sun.source.tree.BlockTree;
 import com.sun.source.tree.ClassTree;
 import com.sun.source.tree.CompilationUnitTree;
+import com.sun.source.tree.CompoundAssignmentTree;
+import com.sun.source.tree.DoWhileLoopTree;
+import com.sun.source.tree.EnhancedForLoopTree;
+import com.sun.source.tree.ForLoopTree;
 import com.sun.source.tree.ImportTree;
 import com.sun.source.tree.InstanceOfTree;
 import com.sun.source.tree.LambdaExpressionTree;
+import com.sun.source.tree.LiteralTree;
 import com.sun.source.tree.MemberReferenceTree;
 import com.sun.source.tree.MethodInvocationTree;
 import com.sun.source.tree.MethodTree;
@@ -14,8 +20,11 @@ import com.sun.source.tree.SynchronizedTree;
 import com.sun.source.tree.ThrowTree;
 import com.sun.source.tree.Tree;
 import com.sun.source.tree.TryTree;
+import com.sun.source.tree.TypeCastTree;
 import com.sun.source.tree.VariableTree;
+import com.sun.source.tree.WhileLoopTree;
 import com.sun.source.util.JavacTask;
+import com.sun.source.util.TreePath;
 import com.sun.source.util.TreePathScanner;
 import com.sun.source.util.Trees;
 import java.io.File;
@@ -27,6 +36,8 @@ import java.util.Set;
 import javax.lang.model.element.Element;
 import javax.lang.model.element.ExecutableElement;
 import javax.lang.model.element.Modifier;
+import javax.lang.model.type.ArrayType;
+import javax.lang.model.type.TypeMirror;
 import javax.tools.JavaCompiler;
 import javax.tools.StandardJavaFileManager;
 import javax.tools.ToolProvider;
@@ -42,6 +53,12 @@ public final class LanguageTest extends TreePathScanner<Void, Void> {
         "at", "pass", "shade", "cow", "tears", "set", "undo", "behind", "yards", "setting",
         "shading", "wants", "drips", "seen", "forget", "cows", "colds", "likely", "year", "keep",
         "back", "count");
+    private static final Set<String> OF_ALL_OBJECTS = Set.of("equals", "hashCode", "toString",
+        "finalize", "clone");
+    // Of what rule 3 allows, what the program has.
+    private static final Set<String> TYPES = Set.of("int", "long", "char", "boolean", "void",
+        "java.lang.String");
+    private static final Set<String> CONSTANTS = Set.of("int", "java.lang.String");
     private static final int MOST_CLASSES = 12, MOST_FIELDS = 20, MOST_PARAMETERS = 7;
     private static final int MOST_LINES = 60, DEEPEST = 8;
 
@@ -107,6 +124,21 @@ public final class LanguageTest extends TreePathScanner<Void, Void> {
         due.isTrue(rule + ", line " + line, false);
     }
 
+    private TypeMirror typeOf(Tree tree) {
+        return trees.getTypeMirror(new TreePath(getCurrentPath(), tree));
+    }
+
+    private boolean isText(Tree tree) {
+        return typeOf(tree).toString().equals("java.lang.String");
+    }
+
+    private void isOfRule3(Tree tree, TypeMirror type) {
+        TypeMirror inner = type instanceof ArrayType row ? row.getComponentType() : type;
+        String name = inner.toString();
+        due.isTrue("rule 3: " + name + " of " + tree,
+            TYPES.contains(name) || name.startsWith("DewLooms."));
+    }
+
     private static String nameOf(Element element) {
         return element.getEnclosingElement() + "." + element;
     }
@@ -144,13 +176,15 @@ public final class LanguageTest extends TreePathScanner<Void, Void> {
     @Override
     public Void visitVariable(VariableTree tree, Void none) {
         Element element = trees.getElement(getCurrentPath());
-        if (element != null && element.getKind().isField()) {
+        isOfRule3(tree, element.asType());
+        if (element.getKind().isField()) {
             Set<Modifier> modifiers = element.getModifiers();
             due.isTrue("rule 1: " + element + " is private, or told", modifiers.contains(
                 Modifier.PRIVATE) || Set.of("BAD", "NO", "FULL", "NONE").contains(
                 element.toString()));
             due.isTrue("rule 5: " + element + " is final if static",
-                !modifiers.contains(Modifier.STATIC) || modifiers.contains(Modifier.FINAL));
+                !modifiers.contains(Modifier.STATIC) || modifiers.contains(Modifier.FINAL)
+                && CONSTANTS.contains(element.asType().toString()));
             making = true;
             super.visitVariable(tree, none);
             making = false;
@@ -172,6 +206,8 @@ public final class LanguageTest extends TreePathScanner<Void, Void> {
             due.isTrue("rule 1: " + nameOf(element), !FACE.contains(name) && (!inFace || making
                 || element.getModifiers().contains(Modifier.PRIVATE)));
         }
+        isOfRule3(tree, ((ExecutableElement) element).getReturnType());
+        due.isTrue("rule 6: " + element, !OF_ALL_OBJECTS.contains(name));
         due.isTrue("rule 11: parameters of " + element,
             tree.getParameters().size() <= MOST_PARAMETERS);
         long first = unit.getLineMap().getLineNumber(
@@ -261,5 +297,61 @@ public final class LanguageTest extends TreePathScanner<Void, Void> {
     public Void visitMemberReference(MemberReferenceTree tree, Void none) {
         never("rule 2: method reference", tree);
         return super.visitMemberReference(tree, none);
+    }
+
+    @Override
+    public Void visitLiteral(LiteralTree tree, Void none) {
+        due.isTrue("no null is wanted here", tree.getValue() != null);
+        if (tree.getValue() instanceof String text) {
+            due.isTrue("rule 4: signs of " + tree, text.chars().allMatch(c -> c >= 1 && c <= 127));
+        }
+        return super.visitLiteral(tree, none);
+    }
+
+    @Override
+    public Void visitBinary(BinaryTree tree, Void none) {
+        due.isTrue("rules 6 and 10: no two texts joined, or compared by ==: " + tree,
+            !isText(tree.getLeftOperand()) && !isText(tree.getRightOperand()));
+        return super.visitBinary(tree, none);
+    }
+
+    @Override
+    public Void visitCompoundAssignment(CompoundAssignmentTree tree, Void none) {
+        due.isTrue("rule 10: no text is joined: " + tree, !isText(tree.getVariable()));
+        return super.visitCompoundAssignment(tree, none);
+    }
+
+    @Override
+    public Void visitTypeCast(TypeCastTree tree, Void none) {
+        due.isTrue("no casts but of numbers are wanted here: " + tree,
+            typeOf(tree.getType()).getKind().isPrimitive());
+        return super.visitTypeCast(tree, none);
+    }
+
+    /** Whether the bound is one that is reached cannot be looked up. */
+    @Override
+    public Void visitForLoop(ForLoopTree tree, Void none) {
+        due.isTrue("rule 9: a loop has a bound and a counter: " + tree,
+            tree.getCondition() != null && tree.getInitializer().size() == 1
+            && tree.getUpdate().size() == 1);
+        return super.visitForLoop(tree, none);
+    }
+
+    @Override
+    public Void visitEnhancedForLoop(EnhancedForLoopTree tree, Void none) {
+        never("rule 12: loops by index alone are wanted here", tree);
+        return super.visitEnhancedForLoop(tree, none);
+    }
+
+    @Override
+    public Void visitWhileLoop(WhileLoopTree tree, Void none) {
+        never("rule 9: loops with a counter alone are wanted here", tree);
+        return super.visitWhileLoop(tree, none);
+    }
+
+    @Override
+    public Void visitDoWhileLoop(DoWhileLoopTree tree, Void none) {
+        never("rule 9: loops with a counter alone are wanted here", tree);
+        return super.visitDoWhileLoop(tree, none);
     }
 }
